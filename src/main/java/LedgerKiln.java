@@ -298,7 +298,7 @@ public final class LedgerKiln {
   }
 
   private boolean isToldTruly(int page) {
-    return vault.hasTrueInVault(book, page) || book.struck[page] || book.isTrueOn(book.now, page);
+    return vault.hasTrue(book, page, false) || book.struck[page] || book.isTrueOn(book.now, page);
   }
 
   // ---- copies as they are
@@ -340,7 +340,7 @@ public final class LedgerKiln {
   public int lost() {
     int lost = 0;
     for (int page = 0; page < book.count; page++) {
-      if (book.stateOf(page) == BURNT && !vault.hasTrueAnywhere(book, page)) {
+      if (book.stateOf(page) == BURNT && !vault.hasTrue(book, page, true)) {
         lost++;
       }
     }
@@ -760,20 +760,10 @@ public final class LedgerKiln {
       return countFilled(page);
     }
 
-    boolean hasTrueInVault(Book book, int page) {
+    boolean hasTrue(Book book, int page, boolean outsideToo) {
       for (int number = 0; number < made; number++) {
         Copy copy = copies[number];
-        if (copy != null && copy.inVault && book.isTrueOn(copy.sheet, page)) {
-          return true;
-        }
-      }
-      return false;
-    }
-
-    boolean hasTrueAnywhere(Book book, int page) {
-      for (int number = 0; number < made; number++) {
-        Copy copy = copies[number];
-        if (copy != null && book.isTrueOn(copy.sheet, page)) {
+        if (copy != null && (copy.inVault || outsideToo) && book.isTrueOn(copy.sheet, page)) {
           return true;
         }
       }

@@ -159,6 +159,8 @@ public final class CopiesAsTheyAreTest {
     Check.due("audit, stands in the copy alone", x.audit(0), 1);
     x.rot(0, 0);
     Check.due("audit, stands nowhere", x.audit(0), 0);
+    LedgerKiln nowhere = Check.after(y -> { six.accept(y); y.alter(0, 0, 9); y.alter(0, 1, 8); y.burn(0, 0); y.rot(0, 0); });
+    Check.due("audit, stood there altered, stands nowhere", nowhere.audit(0), 0);
     x.rot(0, 1);
     Check.due("audit, stands in the book alone", x.audit(0), 1);
     x.alter(2, 1, 0);

@@ -195,6 +195,10 @@ public final class PagesTest {
     Check.due("balance, no legs", x.balance(7, 3), 0);
     x.pass(1);
     Check.due("balance, day of now", x.balance(0, 4), 150);
+    LedgerKiln late = Check.after(y -> { y.pass(1); Play.page(y, 0, 1, 10, 1); });
+    Check.due("balance, ahead of all pages", late.balance(0, 0), 0);
+    Check.due("balance by pages, ahead of all pages", late.balanceByPages(0, 0), 0);
+    Check.due("balance by copies, ahead of all pages", late.balanceByCopies(0, 0), 0);
     Check.refusesIndex("balance, account -1", PagesTest::fourKinds, y -> y.balance(-1, 0));
     Check.refusesIndex("balance, account 8", PagesTest::fourKinds, y -> y.balance(8, 0));
     Check.refusesArgument("balance, day -1", PagesTest::fourKinds, y -> y.balance(0, -1));
@@ -262,6 +266,8 @@ public final class PagesTest {
     Check.due("balanceByCopies, altered, in no copy", Check.answer(x, y -> y.balanceByCopies(5, 3)), "IllegalStateException");
     x.alter(2, 0, 40);
     Check.due("balanceByCopies, not altered any more", x.balanceByCopies(0, 3), 70);
+    LedgerKiln first = Check.after(y -> { copied.accept(y); y.burn(0, 1); y.carry(1, false); });
+    Check.due("balanceByCopies, in the first copy alone", first.balanceByCopies(0, 3), 70);
     LedgerKiln altered = Check.after(copied);
     altered.alter(0, 0, 99);
     Check.due("balanceByCopies, altered, in copies", altered.balanceByCopies(0, 3), 70);
