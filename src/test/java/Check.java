@@ -6,14 +6,24 @@ import java.util.function.Function;
 final class Check {
   private static int compared = 0;
   private static int wrong = 0;
+  private static String place = "";
 
   private Check() {}
+
+  /** From here on a wrong answer is told with that place. */
+  static void at(String where) {
+    place = where.isEmpty() ? "" : "[" + where + "] ";
+  }
+
+  static int compared() {
+    return compared;
+  }
 
   static void due(String what, Object got, Object due) {
     compared++;
     if (!Objects.equals(got, due)) {
       wrong++;
-      System.out.println(what + " answered " + got + ", due is " + due);
+      System.out.println(place + what + " answered " + got + ", due is " + due);
     }
   }
 
@@ -24,6 +34,11 @@ final class Check {
     } catch (RuntimeException e) {
       return e.getClass().getSimpleName();
     }
+  }
+
+  /** What a call answers, or throws, behind what comes before it. */
+  static Object answerAfter(Consumer<LedgerKiln> before, Function<LedgerKiln, Object> call) {
+    return answer(after(before), call);
   }
 
   static void refusesIndex(String what, Consumer<LedgerKiln> before, Function<LedgerKiln, Object> call) {
@@ -53,7 +68,7 @@ final class Check {
     compared++;
     if (!with.equals(without)) {
       wrong++;
-      System.out.println(what + " changes something: " + firstUnlike(without, with));
+      System.out.println(place + what + " changes something: " + firstUnlike(without, with));
     }
   }
 

@@ -90,29 +90,19 @@ public final class PagesTest {
     Check.refusesIndex("text 4", PagesTest::fourKinds, y -> y.text(4));
   }
 
-  /** The mark as the document tells it, from the day, the text, and accounts and amounts in turn. */
-  private static int markOf(int... numbers) {
-    long m = 1;
-    for (int i = 0; i < numbers.length; i++) {
-      int v = i >= 2 && i % 2 == 1 ? numbers[i] + 10000 : numbers[i];
-      m = (131 * m + 17 * v + 7) % 1000003;
-    }
-    return (int) m;
-  }
-
   private static void promise24Mark() {
     LedgerKiln x = Check.after(PagesTest::fourKinds);
-    Check.due("mark: stands", x.mark(0), markOf(0, 11, 0, 10, 1, -10));
-    Check.due("mark: burnt", x.mark(1), markOf(0, 12, 0, 20, 2, -20));
-    Check.due("mark: struck", x.mark(2), markOf(3, 13, 0, 40, 3, -40));
-    Check.due("mark: altered", x.mark(3), markOf(3, 14, 0, 80, 4, -80));
+    Check.due("mark: stands", x.mark(0), Play.markOf(0, 11, 0, 10, 1, -10));
+    Check.due("mark: burnt", x.mark(1), Play.markOf(0, 12, 0, 20, 2, -20));
+    Check.due("mark: struck", x.mark(2), Play.markOf(3, 13, 0, 40, 3, -40));
+    Check.due("mark: altered", x.mark(3), Play.markOf(3, 14, 0, 80, 4, -80));
     x.pass(100);
     x.leg(7, -10000);
     x.leg(6, 10000);
     x.leg(7, 10000);
     x.leg(7, -10000);
     x.write(9999);
-    Check.due("mark: four legs", x.mark(4), markOf(103, 9999, 7, -10000, 6, 10000, 7, 10000, 7, -10000));
+    Check.due("mark: four legs", x.mark(4), Play.markOf(103, 9999, 7, -10000, 6, 10000, 7, 10000, 7, -10000));
     Check.refusesIndex("mark -1", PagesTest::fourKinds, y -> y.mark(-1));
     Check.refusesIndex("mark 4", PagesTest::fourKinds, y -> y.mark(4));
   }

@@ -62,6 +62,7 @@ final class Snapshot {
       askCase(lawsuit, pages);
     }
     askHidden();
+    askAmounts(pages);
   }
 
   private void askPage(int page) {
@@ -113,16 +114,69 @@ final class Snapshot {
   }
 
   private void askHidden() {
+    for (int copy = 0; copy < 16; copy++) {
+      int asked = copy;
+      askNew("throwAway " + copy, x -> x.throwAway(asked));
+      askNew("copyFrom " + copy, x -> x.size(x.copyFrom(asked)));
+      askNew("restored from " + copy, x -> restoredFrom(x, asked));
+    }
+    for (int lawsuit = 0; lawsuit < 8; lawsuit++) {
+      int asked = lawsuit;
+      askNew("close " + lawsuit, x -> x.close(asked));
+    }
     askNew("wipe", x -> x.wipe());
     askNew("write", x -> x.mark(x.write(4321)));
     askNew("balanced", x -> x.leg(0, 7) * 1000000 + x.leg(1, -7) * 100000 + x.mark(x.write(4321)));
     askNew("copy", x -> x.copy());
+    askNew("copy, as soon as nothing is burnt", Snapshot::copyOfRestored);
     askNew("open", x -> x.open());
     askNew("holds", Snapshot::holdsLeft);
     for (int page = 0; page < 80; page += 79) {
       int asked = page;
       askNew("proves " + page, x -> x.proves(asked, 4321));
     }
+  }
+
+  /** Which pages are true again if the book burns and all copies come back: what stands in a copy. */
+  private static Object restoredFrom(LedgerKiln kiln, int copy) {
+    carryAllBack(kiln);
+    int pages = kiln.pages();
+    Check.answer(kiln, x -> x.burn(0, pages - 1));
+    StringBuilder told = new StringBuilder().append(kiln.restore(copy));
+    for (int page = 0; page < pages; page++) {
+      told.append(kiln.isTrue(page) ? " true" : " -");
+    }
+    return told.toString();
+  }
+
+  private static void carryAllBack(LedgerKiln kiln) {
+    for (int copy = 0; copy < 16; copy++) {
+      int carried = copy;
+      Check.answer(kiln, x -> x.carry(carried, true));
+    }
+  }
+
+  /** The number of the next copy, if all that is burnt stands in some copy. */
+  private static Object copyOfRestored(LedgerKiln kiln) {
+    carryAllBack(kiln);
+    for (int copy = 0; copy < 16; copy++) {
+      int source = copy;
+      Check.answer(kiln, x -> x.restore(source));
+    }
+    return kiln.copy();
+  }
+
+  /** The amounts on the pages of the book, as an alteration tells what stood there. */
+  private void askAmounts(int pages) {
+    asked = CALLS_OF_ONE;
+    for (int page = 0; page < pages; page++) {
+      for (int leg = 0; leg < 4; leg++) {
+        int ofPage = page;
+        int ofLeg = leg;
+        ask("amount " + page + " " + leg, x -> x.alter(ofPage, ofLeg, 0));
+      }
+    }
+    asked = CALLS_OF_ONE;
   }
 
   /** How many holds can be told yet by the first open case. */
