@@ -27,6 +27,7 @@ public final class ReadmeTest {
 
   /** The commands run in a directory that is like the project's, so that nothing is left behind. */
   private static void exampleHolds() throws IOException, InterruptedException {
+    remove(PLACE.toFile());
     Path program = PLACE.resolve("src/main/java/LedgerKiln.java");
     Files.createDirectories(program.getParent());
     Files.write(program, Files.readAllBytes(Path.of("src/main/java/LedgerKiln.java")));
@@ -44,6 +45,17 @@ public final class ReadmeTest {
       Check.due(command, process.waitFor(), 0);
     }
     Check.due("what the example prints", Files.readAllLines(told.toPath()), blockOf("text"));
+  }
+
+  /** What an earlier run compiled there would hide a command that compiles nothing. */
+  private static void remove(File place) {
+    File[] parts = place.listFiles();
+    if (parts != null) {
+      for (File part : parts) {
+        remove(part);
+      }
+    }
+    place.delete();
   }
 
   /** The lines of the only block of that kind. */
